@@ -80,9 +80,9 @@ public final class LeafInk {
         switch (what) {
             case 0: return now.width;
             case 1: return now.height;
-            case 2: return now.dots() - marked(BRIGHT);
-            case 3: return marked(STAIN);
-            case 4: return marked(INK);
+            case 2: return now.dots() - eye.howMany(now, BRIGHT);
+            case 3: return eye.howMany(now, STAIN);
+            case 4: return eye.howMany(now, INK);
             case 5: return now.greysTogether();
             case 6: return now.rule;
             case 7: return now.reach;
@@ -154,7 +154,8 @@ public final class LeafInk {
         if (n < 0 || n > MOST_DOTS) {
             return BAD;
         }
-        int ink = eye.inkOf(now);
+        eye.look(now, now.reach);
+        int ink = eye.dotsMarked(now.bound, INK);
         int unread = ink;
         int left = 0;
         for (int dot = 0; dot < MOST_DOTS; dot++) {
@@ -201,7 +202,7 @@ public final class LeafInk {
         }
         doings.add(RULED, now.rule, now.reach, now.bound);
         now.setRule(rule, reach, bound);
-        return inkCount(now);
+        return eye.howMany(now, INK);
     }
 
     public int table(int grey, int v) {
@@ -220,7 +221,7 @@ public final class LeafInk {
         }
         doings.add(LAID, now.dx, now.dy, 0);
         now.setLie(dx, dy);
-        return inkCount(now);
+        return eye.howMany(now, INK);
     }
 
     public int undo() {
@@ -354,7 +355,7 @@ public final class LeafInk {
             lastDrawn = lastDrawn * MULTIPLIER + INCREMENT;
             int upperBits = (int) (lastDrawn >>> 33);
             trial.setGrey(LEAF, remainder(upperBits, trial.dots()), upperBits / 32 % FIGURES);
-            together += inkCount(trial);
+            together += eye.howMany(trial, INK);
         }
         return together;
     }
@@ -367,7 +368,7 @@ public final class LeafInk {
         }
         slotAt(slot).copyFrom(now);
         keptSlots |= 1 << slot;
-        return inkCount(now);
+        return eye.howMany(now, INK);
     }
 
     public int again(int slot) {
@@ -379,7 +380,7 @@ public final class LeafInk {
         }
         now.copyFrom(slotAt(slot));
         doings.forgetAll();
-        return inkCount(now);
+        return eye.howMany(now, INK);
     }
 
     // ---- what may be asked for
@@ -412,16 +413,7 @@ public final class LeafInk {
         return slot == 0 ? firstSlot : secondSlot;
     }
 
-    // ---- ink counted
-
-    private int marked(int mark) {
-        eye.look(now, now.reach);
-        return Integer.bitCount(eye.dotsMarked(now.bound, mark));
-    }
-
-    private int inkCount(Sheet sheet) {
-        return Integer.bitCount(eye.inkOf(sheet));
-    }
+    // ---- ink of a leaf that is only tried
 
     private int inkWhenCome(int come) {
         trial.copyFrom(now);
@@ -430,7 +422,7 @@ public final class LeafInk {
                 trial.whiten(row, ALL_COLUMNS);
             }
         }
-        return inkCount(trial);
+        return eye.howMany(trial, INK);
     }
 
     // In how many orders just these rows have come when one certain row comes next.
@@ -442,7 +434,7 @@ public final class LeafInk {
     private int inkWhenBleached(int row, int which) {
         trial.copyFrom(now);
         trial.whiten(row, which);
-        return inkCount(trial);
+        return eye.howMany(trial, INK);
     }
 
     // ---- the best one
@@ -507,7 +499,7 @@ public final class LeafInk {
             case TABLED: return endsInZeros && canTable(second, third);
             case LAID: return endsInZeros && canLay(second - 1, third - 1);
             case ONE_MARKED: return second == 0 && isSoMarked(twoInside, fifth);
-            case MANY_INK: return second == 0 && fifth == 0 && inkCount(trial) >= twoInside;
+            case MANY_INK: return second == 0 && fifth == 0 && eye.howMany(trial, INK) >= twoInside;
             default: return false;
         }
     }
@@ -878,9 +870,9 @@ public final class LeafInk {
             dots = 0;
         }
 
-        int inkOf(Sheet sheet) {
+        int howMany(Sheet sheet, int mark) {
             look(sheet, sheet.reach);
-            return dotsMarked(sheet.bound, INK);
+            return Integer.bitCount(dotsMarked(sheet.bound, mark));
         }
 
         void look(Sheet sheet, int reach) {

@@ -127,6 +127,7 @@ public final class BestTest {
         Due.is("two painted black, three are ink", ink.judge(3, 10030_10020_70030L), LeafInk.NONE);
         Due.is("not four", ink.judge(3, 10030_10020_70040L), 2);
         Due.is("lit twice, once too much", ink.judge(3, 10001_20800_20700L), 2);
+        Due.is("lit by -1 twice", ink.judge(3, 10001_20800_20800L), 2);
         Due.is("lit by -1 after painting", ink.judge(2, 10001_20800L), LeafInk.NONE);
         Due.is("another bound", ink.judge(2, 32090_70020L), LeafInk.NONE);
         Due.is("the table makes a stain", ink.judge(2, 49500_60000L), LeafInk.NONE);

@@ -130,7 +130,9 @@ public final class LeafTest {
         Due.is("the text stays", ink.about(12), 16);
         Due.is("the same text once more", ink.leaf(), 6);
         ink.rule(2, 2, 7);
+        ink.table(0, 4);
         ink.table(3, 4);
+        ink.table(9, 4);
         ink.lay(-1, 1);
         ink.paint(0, 0, 9);
         ink.keep(0);
@@ -142,7 +144,7 @@ public final class LeafTest {
         for (int what = 0; what < want.length; what++) {
             Due.is("about(" + what + ") of the new leaf", ink.about(what), want[what]);
         }
-        Due.is("the table as at first", ink.shows(3), 0);
+        Due.is("the table as at first", ink.shows(0) + ink.shows(3) + ink.shows(9), 0);
         Due.is("kept 0 is gone", ink.again(0), LeafInk.LATE);
         Due.is("kept 1 is gone", ink.again(1), LeafInk.LATE);
         Due.is("no doings", ink.undo(), LeafInk.LATE);
@@ -290,6 +292,7 @@ public final class LeafTest {
         LeafInk two = Due.leaf("L21 13 B 99");
         Due.is("rule 1, bound 9", two.rule(1, 1, 9), 1);
         Due.is("the darker one", two.mark(0), 2);
+        Due.is("darker by half a grey", Due.leaf("L21 45 B 99").rule(1, 1, 9), 1);
     }
 
     private static void darkByBound() {
