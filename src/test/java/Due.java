@@ -45,6 +45,12 @@ final class Due {
         return ink;
     }
 
+    /** A new object with a leaf of one grey, and a back of one. */
+    static LeafInk even(int w, int h, int front, int back) {
+        String fronts = String.valueOf(front).repeat(w * h);
+        return leaf("L" + w + h + fronts + "B" + String.valueOf(back).repeat(w * h));
+    }
+
     static void retell(LeafInk ink, String letters) {
         String told = letters.replace(" ", "");
         ink.wipe();

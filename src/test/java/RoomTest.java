@@ -3,7 +3,7 @@ import java.lang.management.ManagementFactory;
 
 /** All objects of a run share one room: the calls of an object make none beside what its constructor made. */
 public final class RoomTest {
-    private static final int CALLS_A_ROUND = 34, ROUNDS = 15, OBJECTS = 40;
+    private static final int CALLS_A_ROUND = 34, ROUNDS = 12, OBJECTS = 40;
     private static final long SMALL_OBJECT = 4096;
 
     public static void main(String[] args) {
