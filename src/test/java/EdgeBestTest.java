@@ -430,6 +430,13 @@ public final class EdgeBestTest {
         share(column, 3, 17, 60);
         share(column, 4, -13, 60);
         Due.is("ink of all rows", column.about(4), 1);
+        // What lies UNDER the first row is of the second row of the BACK, and shows through before that row has come.
+        LeafInk stained = Due.leaf("L12 00 B 55");
+        stained.rule(2, 0, 1);
+        stained.table(5, 1);
+        stained.lay(0, 1);
+        share(stained, 0, 0, 1);
+        share(stained, 1, 1, 1);
     }
 
     // "FRACTIONS are told above (upper = true; less than 0, if they are), below, in least terms."

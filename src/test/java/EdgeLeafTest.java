@@ -377,7 +377,7 @@ public final class EdgeLeafTest {
     private static void underRefusals() {
         unknownDots("under", LeafInk::under);
         Twins.asked("under(0) where there is none", Twins::rich, ink -> ink.under(0), NONE);
-        Twins.asked("under(3)", Twins::rich, ink -> ink.under(3), 2);
+        Twins.asked("under(4)", Twins::rich, ink -> ink.under(4), 2);
     }
 
     // "n or less of them: they are not left as INK where SPECKS of n are taken away"

@@ -151,7 +151,7 @@ public final class EdgeTextTest {
                     ink.write(whole.charAt(length));
                 }
                 Due.is("fault() of " + whole, ink.fault(), NONE);
-                while (ink.about(12) < 56) {
+                for (int length = whole.length() + 1; length <= 56; length++) {
                     ink.write('0');
                     Due.is("fault() of " + whole + " and more", ink.fault(), whole.length());
                 }
