@@ -430,6 +430,14 @@ public final class EdgeBestTest {
         share(column, 3, 17, 60);
         share(column, 4, -13, 60);
         Due.is("ink of all rows", column.about(4), 1);
+        LeafInk lower = Due.even(1, 5, 0, 9);
+        lower.rule(2, 0, 1);
+        share(lower, 4, 1, 1);
+        Due.retell(lower, "L12 09 B 99");
+        lower.rule(2, 0, 1);
+        // Rows that there were count no more.
+        share(lower, 0, 1, 1);
+        share(lower, 1, 0, 1);
         // What lies UNDER the first row is of the second row of the BACK, and shows through before that row has come.
         LeafInk stained = Due.leaf("L12 00 B 55");
         stained.rule(2, 0, 1);
